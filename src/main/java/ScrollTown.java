@@ -144,6 +144,7 @@ public final class ScrollTown {
         if (!payer.hasCoin(index)) {
             return NO_INDEX;
         }
+        // The scroll's own coin leads to the last one, so NO_COIN can't come back here.
         return hand(payer, paid, index, payer.coins, payer.coinAt(index), plate);
     }
 
