@@ -591,6 +591,7 @@ public final class ScrollTown {
             System.arraycopy(row, at, lastCoins, s * COIN_BYTES, COIN_BYTES);
         }
     }
+
     /** Makes HASH, CUT and CODE; its rows are used again, so that no call makes new ones. */
     private static final class Hash {
         private static final int BLOCK_BYTES = 64;

@@ -15,20 +15,17 @@ public final class FaceTest {
         "int letterByte(int,int)", "boolean powerCut(int,int)", "int empty(int)", "int settle()",
         "long account(int)", "int spent(int,int)", "int overspent(int)", "int minutes(int,int)",
         "int count(int)");
+    private static final long ROOM = 7300000;
     private static final Set<String> CONSTANTS = Set.of("NONE", "NOT_HERE", "NO_INDEX", "NO_COIN", "CUT_OFF");
 
     private FaceTest() {
     }
 
     public static void main(String[] args) {
-        faceIsTheDocuments();
-        constantsAreTheDocuments();
-        classesInsideAreHidden();
-        callsMakeFewObjects();
-        Checks.end();
+        Checks.runAll(FaceTest.class);
     }
 
-    private static void faceIsTheDocuments() {
+    static void faceIsTheDocuments() {
         Checks.due("the class is public and final",
             Modifier.isPublic(ScrollTown.class.getModifiers()) && Modifier.isFinal(ScrollTown.class.getModifiers()), true);
         Set<String> seen = new TreeSet<>();
@@ -59,7 +56,7 @@ public final class FaceTest {
         return text.append(")").toString();
     }
 
-    private static void constantsAreTheDocuments() {
+    static void constantsAreTheDocuments() {
         Set<String> seen = new TreeSet<>();
         for (Field f : ScrollTown.class.getDeclaredFields()) {
             if (!Modifier.isPrivate(f.getModifiers())) {
@@ -78,7 +75,8 @@ public final class FaceTest {
         Checks.due("CUT_OFF", ScrollTown.CUT_OFF, -5);
     }
 
-    private static void classesInsideAreHidden() {
+    static void classesInsideAreHidden() {
+        Checks.due("more than twelve classes", ScrollTown.class.getDeclaredClasses().length > 12, false);
         for (Class<?> inside : ScrollTown.class.getDeclaredClasses()) {
             int modifiers = inside.getModifiers();
             Checks.due(inside + " is static and not public",
@@ -86,15 +84,18 @@ public final class FaceTest {
         }
     }
 
-    /** The room is one for all calls of a run, so the dearest run may make some ten thousands of bytes, no more. */
-    private static void callsMakeFewObjects() {
+    /**
+     * The room is one for all calls of a run: 600,000 objects and 7,300,000 fields and elements. An element
+     * has a byte at least and an object 16, so who makes fewer bytes than that keeps within both.
+     */
+    static void callsMakeFewObjects() {
         com.sun.management.ThreadMXBean threads = (com.sun.management.ThreadMXBean) ManagementFactory.getThreadMXBean();
         dearRun();
         long before = threads.getCurrentThreadAllocatedBytes();
         dearRun();
         long made = threads.getCurrentThreadAllocatedBytes() - before;
         System.out.println("a dear run makes " + made + " bytes");
-        Checks.due("a dear run makes more than 100000 bytes: " + made, made > 100000, false);
+        Checks.due("a dear run makes more than its room: " + made, made > ROOM, false);
     }
 
     private static void dearRun() {

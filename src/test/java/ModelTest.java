@@ -1,9 +1,10 @@
 import java.util.Random;
 
-/** Runs of 512 calls with drawn arguments (from written seeds), each answer compared with the model's. */
+/** Runs of some 500 calls with drawn arguments (from written seeds), each answer compared with the model's. */
 public final class ModelTest {
     private static final int RUNS = 1500;
-    private static final int CALLS = 512;
+    /** Nothing is promised behind the 512th call: an offer takes 23 calls, and the look at the end 29. */
+    private static final int CALLS_BEFORE_THE_LAST_STEP = 512 - 23 - 29;
     private static final int[] ODD = {-1, Integer.MIN_VALUE, Integer.MAX_VALUE, 8, 16, 20, 51, 61, 204, 256, 1001};
 
     private final Random random;
@@ -18,6 +19,7 @@ public final class ModelTest {
     }
 
     public static void main(String[] args) {
+        Checks.watch();
         for (int seed = 0; seed < RUNS && !Checks.anyWrong(); seed++) {
             new ModelTest(seed).play(seed);
         }
@@ -28,10 +30,13 @@ public final class ModelTest {
         if (seed % 3 != 0) {
             prepare();
         }
-        while (calls < CALLS - 40 && !Checks.anyWrong()) {
+        while (calls < CALLS_BEFORE_THE_LAST_STEP && !Checks.anyWrong()) {
             step();
         }
         look();
+        if (calls > 512) {
+            Checks.fail(run + "the test itself makes " + calls + " calls");
+        }
     }
 
     private void prepare() {
