@@ -159,6 +159,17 @@ public final class SettleTest {
         town.insert(0, 1, 2);
     }
 
+    static void promise13GivesTheKeysToAMeterWithAList() {
+        Town town = Town.withScroll(5);
+        town.buy(0, 5, 10, 255, 1, 10, 1);
+        town.newWeek(3, 4, 2);
+        town.buy(0, 5, 10, 255, 2, 10, 2);
+        town.insert(2, 0, 2);
+        town.empty(0, 1);
+        town.insert(1, 0, 0);
+        town.insert(2, 0, 0);
+    }
+
     static void promise13TakesTheKeysOfOlderWeeks() {
         Town town = Town.rich();
         town.buy(0, 5, 10, 255, 1, 10, 0);
